@@ -62,6 +62,8 @@ public final class BraceletsTest {
         check.due("copy(0), just enough", x.copy(0), 2);
         check.due("kind(1, 0)", x.kind(1, 0), 0);
         check.due("kind(5, 0)", x.kind(5, 0), 0);
+        x.fill(5, 0);
+        check.due("read(), no e left", Check.read(x, "e3-"), -3);
         check.due("copy(3)", x.copy(3), -1);
         check.due("copy(-1)", x.copy(-1), -1);
         check.due("copy(6)", x.copy(6), -1);
@@ -101,6 +103,16 @@ public final class BraceletsTest {
         check.due("kind(3, 0)", x.kind(3, 0), 2);
         check.due("make(4)", x.make(4), 0);
         check.same("a number used again", Check.slots(x, 0), "----");
+        Check.read(x, "abcde3-");
+        for (int k = 1; k <= 5; k++) {
+            x.fill(k, 99);
+            check.due("remove(1), the box would have 100 of kind " + k, x.remove(1), -3);
+            x.fill(k, 11);
+        }
+        check.due("remove(1)", x.remove(1), 5);
+        for (int k = 1; k <= 5; k++) {
+            check.due("kind(" + k + ", 0)", x.kind(k, 0), 12);
+        }
         check.due("remove(0), without charms", x.remove(0), 0);
     }
 

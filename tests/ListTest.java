@@ -12,7 +12,7 @@ public final class ListTest {
     private static void note() {
         CharmBracelets x = new CharmBracelets();
         Check.read(x, "abc5-");
-        Check.read(x, "4-abc-");
+        Check.read(x, "3-abc2-");
         Check.read(x, "cba5-");
         Check.read(x, "abc9-");
         check.due("entries()", x.entries(), 0);

@@ -12,6 +12,7 @@ public final class UndoTest {
         save();
         restore();
         undoAndRestore();
+        listComesBack();
         check.finish();
     }
 
@@ -235,5 +236,33 @@ public final class UndoTest {
         check.due("restore(), undo leaves the saved state", x.restore(), 0);
         check.due("restore(), also if it makes no difference", x.restore(), 0);
         check.due("undo()", x.undo(), 1);
+    }
+
+    /** The same entry is first of one class, then of another, then of the one again. */
+    private static void listComesBack() {
+        CharmBracelets x = new CharmBracelets();
+        Check.read(x, "a7-");
+        Check.read(x, "b3-");
+        x.save();
+        x.note(0);
+        x.note(0);
+        check.due("restore(), to an empty list", x.restore(), 2);
+        check.due("entries()", x.entries(), 0);
+        check.due("note(1)", x.note(1), 0);
+        check.due("entry(0, 0)", x.entry(0, 0), 4);
+        check.due("entry(0, 1)", x.entry(0, 1), 1);
+        x.undo();
+        check.due("undo(), to the list ahead of restore()", x.undo(), 3);
+        check.due("entry(0, 0)", x.entry(0, 0), 8);
+        check.due("entry(0, 1)", x.entry(0, 1), 2);
+        check.due("entry(0, 2)", x.entry(0, 2), 1);
+        check.due("note(1)", x.note(1), 1);
+        x.undo();
+        x.undo();
+        check.due("entry(0, 1)", x.entry(0, 1), 1);
+        x.undo();
+        check.due("note(1), after all notes are undone", x.note(1), 0);
+        check.due("entry(0, 0)", x.entry(0, 0), 4);
+        check.due("entry(0, 1)", x.entry(0, 1), 1);
     }
 }

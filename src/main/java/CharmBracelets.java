@@ -799,7 +799,7 @@ public final class CharmBracelets {
             if (length < 1 || length > ring.size) {
                 return false;
             }
-            for (int i = 0; i < length; i++) {
+            for (int i = 0; i < length && i < signs.length; i++) {
                 if (signs[i] != ANY && signs[i] != ring.at(ring.around(slot + i))) {
                     return false;
                 }
@@ -831,7 +831,7 @@ public final class CharmBracelets {
 
         /** The entry of a ring's class; the one behind the last if its class has none yet. */
         private int entryOf(Ring ring) {
-            for (int i = 0; i < length; i++) {
+            for (int i = 0; i < length && i < firsts.length; i++) {
                 if (firsts[i].isAlike(ring, ROLLS)) {
                     return i;
                 }
@@ -992,7 +992,7 @@ public final class CharmBracelets {
             ring.becomeEmpty(0);
             total = 0;
             number = 0;
-            for (int i = 0; i < length; i++) {
+            for (int i = 0; i < length && i < codes.length; i++) {
                 int code = codes[i];
                 boolean accepted = isDigit(code) ? acceptDigit(code - '0') : acceptRun(kindOf(code), ring);
                 if (!accepted) {
